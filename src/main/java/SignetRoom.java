@@ -148,6 +148,7 @@ public final class SignetRoom {
     /** Answers how many letters, anchors, lists or backing pairs there are. */
     public int many(int what) throws IllegalArgumentException {
         refuseUnless(isWithin(what, LAST_OF_MANY));
+        survey();
         return countOf(what);
     }
 
@@ -211,7 +212,8 @@ public final class SignetRoom {
         refuseUnlessLetter(letter);
         refuseUnlessMoment(time, use);
         survey();
-        return judge(letter, time, use);
+        book.findChainsOf(letter);
+        return decision(time, use);
     }
 
     /** Answers the letter at a place of the chain that decides the verdict, or NONE. */
@@ -242,8 +244,11 @@ public final class SignetRoom {
         survey();
         for (int number = 0; number < letterCount; number++) {
             Letter one = letters[number];
-            if (one.subject == name && one.key == key && judge(number, time, use) == FLAWLESS) {
-                return true;
+            if (one.subject == name && one.key == key) {
+                book.findChainsOf(number);
+                if (firstHolding(time, use) != NONE) {
+                    return true;
+                }
             }
         }
         return false;
@@ -298,13 +303,15 @@ public final class SignetRoom {
         refuseUnlessMoment(time, use);
         survey();
         for (int number = 0; number < letterCount; number++) {
-            verdictsBefore[number] = judge(number, time, use);
+            book.findChainsOf(number);
+            verdictsBefore[number] = decision(time, use);
         }
         turnAnchor(letters[letter]);
         survey();
         int changed = 0;
         for (int number = 0; number < letterCount; number++) {
-            if (judge(number, time, use) != verdictsBefore[number]) {
+            book.findChainsOf(number);
+            if (decision(time, use) != verdictsBefore[number]) {
                 changed++;
             }
         }
@@ -335,7 +342,15 @@ public final class SignetRoom {
             sum = sum * 31 + countOf(what);
         }
         for (int number = 0; number < letterCount; number++) {
-            sum = withLetter(sum, number);
+            sum = withPropertiesOf(letters[number], sum);
+            book.findChainsOf(number);
+            sum = sum * 31 + book.chainCount;
+            for (int time = 100; time <= 500; time += 400) {
+                for (int use = 0; use <= 2; use += 2) {
+                    sum = sum * 31 + decision(time, use);
+                    sum = sum * 31 + decidingPlace(time, use);
+                }
+            }
         }
         for (int number = 0; number < listCount; number++) {
             for (int what = 0; what <= LAST_OF_LIST; what++) {
@@ -345,18 +360,10 @@ public final class SignetRoom {
         return sum;
     }
 
-    private long withLetter(long before, int number) {
+    private static long withPropertiesOf(Letter one, long before) {
         long sum = before;
         for (int what = 0; what <= LAST_OF_LETTER; what++) {
-            sum = sum * 31 + letters[number].property(what);
-        }
-        book.findChainsOf(number);
-        sum = sum * 31 + book.chainCount;
-        for (int time = 100; time <= 500; time += 400) {
-            for (int use = 0; use <= 2; use += 2) {
-                sum = sum * 31 + decision(time, use);
-                sum = sum * 31 + decidingPlace(time, use);
-            }
+            sum = sum * 31 + one.property(what);
         }
         return sum;
     }
@@ -484,34 +491,36 @@ public final class SignetRoom {
     private int pairCount() {
         int pairs = 0;
         for (int number = 0; number < letterCount; number++) {
-            pairs += Integer.bitCount(backersOf(letters[number]));
+            pairs += Integer.bitCount(book.backers[number]);
         }
         return pairs;
     }
 
     // ---- judging
 
-    /** Tells the book who backs whom now; every search for chains rests on the last survey. */
+    /** Marks who backs whom now and who signed the lists; all that is asked next rests on it. */
     private void survey() {
         for (int number = 0; number < letterCount; number++) {
             book.backers[number] = backersOf(letters[number]);
         }
         book.markWays(letterCount, anchorSet());
+        for (int number = 0; number < listCount; number++) {
+            lists[number].markSigners();
+        }
     }
 
-    private int judge(int letter, int time, int use) {
-        book.findChainsOf(letter);
-        return decision(time, use);
-    }
-
+    /** The verdict on the letter whose chains were found last. */
     private int decision(int time, int use) {
         if (book.chainCount == 0) {
             return NO_CHAIN;
         }
-        int place = decidingPlace(time, use);
-        return place == NONE ? FLAWLESS : flawOf(0, place, time, use);
+        if (firstHolding(time, use) != NONE) {
+            return FLAWLESS;
+        }
+        return flawOf(0, firstFlawedPlace(0, time, use), time, use);
     }
 
+    /** The place of the flaw that the decision tells, NONE if it tells none. */
     private int decidingPlace(int time, int use) {
         return firstHolding(time, use) == NONE ? firstFlawedPlace(0, time, use) : NONE;
     }
@@ -584,7 +593,8 @@ public final class SignetRoom {
         int latestAt = NONE;
         for (int number = 0; number < listCount; number++) {
             CallList one = lists[number];
-            if (one.issuer == issuer && one.at <= time && one.at >= latestAt && one.isSealedBy(key)) {
+            boolean isRight = one.issuer == issuer && (one.signers >> key & 1) != 0;
+            if (isRight && one.at <= time && one.at >= latestAt) {
                 latest = number;
                 latestAt = one.at;
             }
@@ -689,6 +699,7 @@ public final class SignetRoom {
         private int next;
         private int serials;
         private int seal;
+        private int signers;
 
         private void write(int newIssuer, int newAt, int newNext) {
             issuer = newIssuer;
@@ -700,8 +711,15 @@ public final class SignetRoom {
             return mix(mix(mix(mix(19, issuer), at), next), serials % MODULUS);
         }
 
-        private boolean isSealedBy(int signingKey) {
-            return seal == sealFor(print(), signingKey);
+        /** Marks the keys by which the seal is right for the print: all of them if both are 0. */
+        private void markSigners() {
+            int print = print();
+            signers = 0;
+            for (int key = 0; key <= LAST_KEY; key++) {
+                if (sealFor(print, key) == seal) {
+                    signers |= 1 << key;
+                }
+            }
         }
 
         private boolean hasSerial(int serial) {
@@ -794,7 +812,10 @@ public final class SignetRoom {
         }
 
         private int member(int chain, int place) {
-            return place < 0 || place >= lengthOf(chain) ? NONE : rows[chain][place];
+            if (chain < 0 || chain >= chainCount || place < 0 || place >= lengths[chain]) {
+                return NONE;
+            }
+            return rows[chain][place];
         }
     }
 }

@@ -14,6 +14,8 @@ public final class VerdictTest {
         test.promise20AsBacker();
         test.promise20FirstFlaw();
         test.promise20CalledBack();
+        test.promise20FullRoom();
+        test.promise20ListOfPrintZero();
         test.promise20LatestList();
         test.promise20Strict();
         test.promise20Anchors();
@@ -145,6 +147,44 @@ public final class VerdictTest {
         SignetRoom other = Rooms.ladder();
         Rooms.addList(other, 1, 100, 200, 2, 1);
         decided("of another issuer", other, 3, 100, 0, 0, -1);
+    }
+
+    /** Key 15 signs, the room has all its letters and lists, and the last ones decide. */
+    private void promise20FullRoom() {
+        check.topic("promise 20, a full room");
+        SignetRoom room = new SignetRoom();
+        for (int letter = 0; letter < 19; letter++) {
+            Rooms.add(room, 1, 2, 15, 5, 15);
+        }
+        Rooms.add(room, 2, 2, 15, 5, 15);
+        room.anchor(19, true);
+        for (int list = 0; list < 7; list++) {
+            Rooms.addList(room, 2, list, 999, -1, 15);
+        }
+        decided("not called back", room, 18, 500, 3, 0, -1);
+        Rooms.addList(room, 2, 7, 999, 18, 15);
+        decided("called back by the last list", room, 18, 500, 3, 7, 0);
+        decided("another letter", room, 17, 500, 3, 0, -1);
+        check.sameText("its chain", Rooms.chainText(room, 17, 500, 3), "17.19.");
+        check.same("isOf 2", room.isOf(2, 15, 500, 3), true);
+        check.same("isOf 3", room.isOf(3, 15, 500, 3), false);
+        mean("18 of 2, 1 of 1", room, 500, 3, 37 / 19.0);
+    }
+
+    /** A list with the print 0 that nobody signed: its seal 0 is right by every key. */
+    private void promise20ListOfPrintZero() {
+        check.topic("promise 20, a list with the print 0");
+        SignetRoom room = Rooms.ladder();
+        int next = 0;
+        while (next < 999 && Check.print(19, 11, 0, next, 1 << 2) != 0) {
+            next++;
+        }
+        room.list(11, 0, next);
+        room.call(0, 2);
+        check.same("print", room.ofList(0, 5), 0);
+        decided("on it", room, 2, 0, 0, 7, 0);
+        room.call(0, 3);
+        decided("with another print", room, 2, 0, 0, 0, -1);
     }
 
     private void promise20LatestList() {
