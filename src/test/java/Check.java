@@ -24,6 +24,11 @@ final class Check {
         same(what, got ? 1 : 0, due ? 1 : 0);
     }
 
+    /** Two numbers with a point are the same if all their bits are, but for the sign of 0. */
+    void sameNumber(String what, double got, double due) {
+        sameText(what, Double.toString(got + 0.0), Double.toString(due + 0.0));
+    }
+
     void sameText(String what, String got, String due) {
         checked++;
         if (!got.equals(due)) {

@@ -8,6 +8,7 @@ public final class ComparisonTest {
     private int names;
     private int keys;
     private int mostLetters;
+    private boolean isOfShortReach;
     private final int[] verdicts = new int[11];
     private SignetRoom room;
     private PlainRoom plain;
@@ -28,6 +29,7 @@ public final class ComparisonTest {
         names = isDense ? 1 + run % 2 : 3 + below(6);
         keys = isDense ? 1 + below(2) : 1 + below(3);
         mostLetters = isDense ? 3 + below(5) : 8 + below(13);
+        isOfShortReach = run % 4 == 1;
         room = new SignetRoom();
         plain = new PlainRoom();
         // Some fifteen calls a step: an object is used for at most 512.
@@ -100,7 +102,7 @@ public final class ComparisonTest {
         int letter = plain.letter(subject, issuer, key, serial);
         check.same("letter", room.letter(subject, issuer, key, serial), letter);
         if (!oneIn(5)) {
-            setMaster(letter, !oneIn(6), oneIn(3) ? below(6) : 4);
+            setMaster(letter, !oneIn(6), isOfShortReach ? below(2) : oneIn(3) ? below(6) : 4);
         }
         if (oneIn(3)) {
             changeLetter(letter);

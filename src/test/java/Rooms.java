@@ -45,6 +45,23 @@ final class Rooms {
         return room;
     }
 
+    /** Sets the times of a letter so that its print is 0. */
+    static void setPrintZero(SignetRoom room, int letter) {
+        int subject = room.ofLetter(letter, 0);
+        int issuer = room.ofLetter(letter, 1);
+        int key = room.ofLetter(letter, 2);
+        int serial = room.ofLetter(letter, 3);
+        int master = room.ofLetter(letter, 6);
+        int reach = room.ofLetter(letter, 7);
+        int uses = room.ofLetter(letter, 8);
+        int bound = room.ofLetter(letter, 9);
+        int to = 0;
+        while (to < 999 && Check.print(17, subject, issuer, key, serial, 0, to, master, reach, uses, bound) != 0) {
+            to++;
+        }
+        room.times(letter, 0, to);
+    }
+
     /** Adds a list with one serial, or with none if that is below 0, and signs it. */
     static int addList(SignetRoom room, int issuer, int at, int next, int serial, int key) {
         int list = room.list(issuer, at, next);
