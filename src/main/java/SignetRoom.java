@@ -780,21 +780,23 @@ public final class SignetRoom {
             begun[0] = letter;
             for (int length = 1; length <= LONGEST; length++) {
                 if ((waysEndingIn[length - 1] >> letter & 1) != 0) {
-                    extend(1, length, 1 << letter);
+                    extend(this, 1, length, 1 << letter);
                 }
             }
         }
 
-        private void extend(int place, int length, int used) {
+        // Static, as a method that calls itself has to be here; the place is its depth.
+        private static void extend(ChainBook book, int place, int length, int used) {
             if (place >= length || place >= LONGEST) {
-                keep(length);
+                book.keep(length);
                 return;
             }
-            int open = backers[begun[place - 1]] & waysEndingIn[length - 1 - place] & ~used;
-            for (int number = 0; number < letterCount && chainCount < MOST_CHAINS; number++) {
-                if ((open >> number & 1) != 0) {
-                    begun[place] = number;
-                    extend(place + 1, length, used | 1 << number);
+            int ways = book.waysEndingIn[length - 1 - place];
+            int open = book.backers[book.begun[place - 1]] & ways & ~used;
+            for (int number = 0; number < book.letterCount; number++) {
+                if ((open >> number & 1) != 0 && book.chainCount < MOST_CHAINS) {
+                    book.begun[place] = number;
+                    extend(book, place + 1, length, used | 1 << number);
                 }
             }
         }
